@@ -540,6 +540,7 @@ public final class ModelTests {
     public static void main(String[] args) {
         for (int run = 0; run < RUNS && wrong == 0; run++) {
             play(run);
+            reckonMuch(run);
         }
         System.out.println(wrong == 0 ? "ModelTests: all answers are as due" : wrong + " answers are not as due");
         if (wrong != 0) {
@@ -567,6 +568,47 @@ public final class ModelTests {
         }
         for (int x = 0; x < m.nodes.size(); x++) {
             due(run, "value at last " + x, value(r, x), m.value(x));
+        }
+    }
+
+    /** Runs in which each node has a value or throws: two groups of a told base, and turns between them. */
+    private static void reckonMuch(int run) {
+        Random random = new Random(run);
+        DefaultRules r = new DefaultRules();
+        Model m = new Model();
+        int[] types = {1 + random.nextInt(2), 3 + random.nextInt(2)};
+        List<List<Integer>> members = List.of(new ArrayList<>(), new ArrayList<>());
+        int[] zeros = {random.nextInt(4), random.nextInt(2)};
+        while (m.nodes.size() < 60) {
+            int side = random.nextInt(2);
+            List<Integer> own = members.get(side);
+            List<Integer> others = members.get(1 - side);
+            int choice = own.size() < 3 ? 0 : random.nextInt(10);
+            int x = own.isEmpty() ? 0 : own.get(own.size() - 1 - random.nextInt(Math.min(own.size(), 6)));
+            int y = own.isEmpty() ? 0 : own.get(random.nextInt(own.size()));
+            int made = m.nodes.size();
+            int v = zeros[side]-- == 1 ? 0 : number(random);
+            int k = 1 + random.nextInt(6);
+            if (choice == 0 && side == 1 && random.nextBoolean()) {
+                due(run, "part", r.part(v, k), m.part(v, k));
+            } else if (choice == 0) {
+                due(run, "whole", r.whole(v), m.whole(v));
+            } else if (choice == 1 && !others.isEmpty()) {
+                int z = others.get(random.nextInt(others.size()));
+                int kind = side == 0 ? 1 : random.nextInt(2) * 2;
+                due(run, "turn", r.turn(kind, z), m.turn(kind, z));
+            } else if (choice < 4) {
+                int kind = random.nextInt(3);
+                due(run, "one", r.one(kind, x), m.one(kind, x));
+            } else {
+                int kind = random.nextInt(8);
+                kind = side == 0 && kind == 3 || side == 1 && (kind == 4 || kind == 5) ? 2 : kind;
+                due(run, "two", r.two(kind, x, y), m.two(kind, x, y));
+            }
+            due(run, "tell", r.tell(made, types[side]), m.tell(made, types[side]));
+            due(run, "value(" + made + ")", value(r, made), m.value(made));
+            due(run, "compare(" + made + ", " + y + ")", r.compare(made, y), m.compare(made, y));
+            own.add(made);
         }
     }
 

@@ -330,7 +330,28 @@ public final class PromiseTests {
         due("fixed both", r.fix(15), 0);
         due("greater one is told", r.two(0, 3, 18), 28);
         due("told by another", r.chosen(20), 2);
+        joined(true);
+        joined(false);
         twoWithoutRoom();
+    }
+
+    /** What is known of one group is known of both then, whichever of them is the lesser. */
+    private static void joined(boolean lesserFirst) {
+        DefaultRules r = new DefaultRules();
+        fill(r, 6);
+        r.need(0, 2);
+        r.need(1, 0);
+        r.tell(3, 1);
+        r.fix(5);
+        r.two(6, lesserFirst ? 0 : 1, lesserFirst ? 1 : 0);
+        r.two(6, lesserFirst ? 2 : 3, lesserFirst ? 3 : 2);
+        r.two(6, lesserFirst ? 4 : 5, lesserFirst ? 5 : 4);
+        due("needs of both", r.needs(0, 0), 1 << 2 | 1 << 0 | 1 << 1);
+        due("needs of both, of the new one", r.needs(6, 0), 1 << 2 | 1 << 0 | 1 << 1);
+        due("told of one", r.chosen(2), 1);
+        due("told of one, of the new one", r.chosen(7), 1);
+        due("fixed of one", r.fix(4), 0);
+        due("fixed of one, of the new one", r.chosen(8), -11);
     }
 
     private static void twoWithoutRoom() {
@@ -461,7 +482,7 @@ public final class PromiseTests {
         due("one", r.one(2, 0), 1);
         due("needs", r.needs(0, 0), 8);
         due("group", r.group(1), 0);
-        int[] values = {0, 5, -5, LARGEST_INT, LEAST_INT};
+        int[] values = {0, 1, -1, 5, -5, LARGEST_INT, LEAST_INT};
         for (int v : values) {
             int x = told(r, v, 1);
             dueInt(r, r.one(0, x), -v);
@@ -800,6 +821,10 @@ public final class PromiseTests {
         int y = r.whole(1);
         r.tell(y, 1);
         due("told has all", r.lacks(y, -1), -3);
+        r.type(0);
+        r.list(6);
+        r.need(y, 0);
+        due("a type without instances lacks the least", r.lacks(y, 3), 0);
         r.list(-1);
         due("empty list", r.lacks(y, 0), -1);
         due("told, empty list", r.lacks(x, -1), 6);
@@ -831,6 +856,32 @@ public final class PromiseTests {
         due("no type any more", value(r, by), DefaultRules.NOTHING);
         due("no base", value(r, withoutBase(r)), DefaultRules.NOTHING);
         basesCount();
+        valuesComeAnew();
+    }
+
+    /** A number that is too small for a float: divided by itself it is 1, or no number, by THE LIST of then. */
+    private static void valuesComeAnew() {
+        DefaultRules r = new DefaultRules();
+        int x = r.part(1, 6);
+        for (int i = 0; i < 4; i++) {
+            x = r.two(2, x, x);
+        }
+        int ratio = r.two(3, x, x);
+        int cut = r.turn(1, ratio);
+        for (int i = 0; i < 3; i++) {
+            r.list(-1);
+            r.list(2);
+            r.list(4);
+            dueDouble(r, ratio, 1.0);
+            dueLong(r, cut, 1);
+            due("a number", r.compare(ratio, ratio), 1);
+            r.list(-1);
+            r.list(3);
+            r.list(2);
+            dueFloat(r, ratio, 0 / 0f);
+            dueLong(r, cut, 0);
+            due("no number", r.compare(ratio, ratio), 3);
+        }
     }
 
     private static int withoutBase(DefaultRules r) {
@@ -880,6 +931,36 @@ public final class PromiseTests {
             }
         }
         edgesOfDoubles();
+        largest();
+    }
+
+    /** The largest double and float, which are near what is endless, and what is more than they. */
+    private static void largest() {
+        for (int type = 3; type <= 4; type++) {
+            DefaultRules r = new DefaultRules();
+            int one = told(r, 1, type);
+            int high = r.whole(1 << 24);
+            int step = r.whole(type == 3 ? 1 << 26 : 1 << 29);
+            int x = r.two(1, type == 3 ? high : r.two(2, r.whole(1 << 29), high), one);
+            for (int i = 0; i < (type == 3 ? 4 : 33); i++) {
+                x = r.two(2, x, step);
+            }
+            x = r.two(2, x, r.whole(type == 3 ? 1 : 1 << 14));
+            int less = r.one(0, x);
+            int noNumber = r.two(3, r.two(1, one, one), r.two(1, one, one));
+            if (type == 4) {
+                dueDouble(r, x, Double.MAX_VALUE);
+                dueDouble(r, less, -Double.MAX_VALUE);
+                dueDouble(r, r.two(0, x, less), 0.0);
+                dueDouble(r, r.two(0, less, less), -1 / 0.0);
+            } else {
+                dueFloat(r, x, Float.MAX_VALUE);
+                dueFloat(r, less, -Float.MAX_VALUE);
+                dueFloat(r, r.two(0, x, less), 0f);
+                dueFloat(r, r.two(0, less, less), -1 / 0f);
+            }
+            due("no number", value(r, noNumber), type == 4 ? 0x7ff8000000000000L : 0x7fc00000L);
+        }
     }
 
     /** Halves 1 and doubles it until both come to an end, by way of all powers of two there are. */
