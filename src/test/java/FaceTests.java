@@ -6,7 +6,7 @@ import java.lang.reflect.Modifier;
 import java.util.Arrays;
 import java.util.TreeSet;
 
-/** The class shows the document's face and no other member but private ones. */
+/** The class shows the document's face and no other member but private ones; classes inside are as rule 1 has them. */
 public final class FaceTests {
     private static final String[] FACE = {
         "public static final long DefaultRules.NOTHING",
@@ -35,6 +35,7 @@ public final class FaceTests {
     };
 
     private static final TreeSet<String> shown = new TreeSet<>();
+    private static int wrong = 0;
 
     private static void look(Member member, String text) {
         if (!Modifier.isPrivate(member.getModifiers()) && !member.isSynthetic()) {
@@ -51,14 +52,58 @@ public final class FaceTests {
         }
         for (Method m : DefaultRules.class.getDeclaredMethods()) {
             look(m, m.toString());
+            lookAtName(m);
         }
         TreeSet<String> due = new TreeSet<>(Arrays.asList(FACE));
-        int modifiers = DefaultRules.class.getModifiers();
-        boolean sealed = Modifier.isPublic(modifiers) && Modifier.isFinal(modifiers);
-        if (!shown.equals(due) || !sealed) {
-            System.out.println("the face is " + shown + ", due is " + due + (sealed ? "" : ", public and final"));
+        if (!shown.equals(due)) {
+            complain("the face is " + shown + ", due is " + due);
+        }
+        lookAtTheClass();
+        for (Class<?> inside : DefaultRules.class.getDeclaredClasses()) {
+            lookInside(inside);
+        }
+        if (DefaultRules.NOTHING != Long.MIN_VALUE) {
+            complain("NOTHING is " + DefaultRules.NOTHING);
+        }
+        if (wrong != 0) {
             System.exit(1);
         }
         System.out.println("FaceTests: the face is as due");
+    }
+
+    private static void complain(String text) {
+        wrong++;
+        System.out.println(text);
+    }
+
+    private static void lookAtTheClass() {
+        int modifiers = DefaultRules.class.getModifiers();
+        if (!Modifier.isPublic(modifiers) || !Modifier.isFinal(modifiers)) {
+            complain("the class is not public and final");
+        }
+        if (DefaultRules.class.getSuperclass() != Object.class || DefaultRules.class.getInterfaces().length != 0) {
+            complain("the class shows members that it has from others");
+        }
+        if (!DefaultRules.class.getPackageName().isEmpty()) {
+            complain("the class has a package");
+        }
+    }
+
+    private static void lookInside(Class<?> inside) {
+        int modifiers = inside.getModifiers();
+        if (Modifier.isPublic(modifiers) || Modifier.isProtected(modifiers) || !Modifier.isStatic(modifiers)) {
+            complain(inside + " is not private or package-visible, and static");
+        }
+        for (Method m : inside.getDeclaredMethods()) {
+            lookAtName(m);
+        }
+    }
+
+    private static void lookAtName(Method m) {
+        for (Method ours : DefaultRules.class.getMethods()) {
+            if (Modifier.isPrivate(m.getModifiers()) && ours.getName().equals(m.getName())) {
+                complain(m + " bears the name of a public method");
+            }
+        }
     }
 }
